@@ -124,8 +124,14 @@ public final class PromisesTest {
         due("3: refused by name", p.define('k', "c"), NONE);
         due("3: the draft is empty then", p.guide.define('c'), 0);
         due("3: c has the empty model", Probe.names(p.guide.fertile()), "abc");
+        p.models("d=a,b,c,a,b,c,a,b,c,d*", "d=(((a|b)|c),a)+", "d=");
+        due("3: nothing of an earlier model is left", p.text("<d><a/></d>").faultsNow(), "7@0");
+        p.models("d=a,b,c,a,b,c,a,b,c,d*", "d=a", "a=b,c,d", "a=");
+        due("3: nothing of an earlier model is left", p.faultsNow(), "");
+        p.erase(0, 11);
         due("3: another model", p.define('a', "a"), 0);
         due("3: in place of the one it had", Probe.names(p.guide.fertile()), "c");
+        due("3: and of the document", new Probe().models(".=a", ".=").faultsNow(), "");
         p.text("<c><c/></c>");
         due("3: faults by the models", p.faultsNow(), "7@0");
         due("3: define", p.define('c', "c*"), 0);
@@ -142,6 +148,7 @@ public final class PromisesTest {
             {"a?,b?,c?", " a b c ab ac bc abc", "ba ca cb aa"}, {"(a|b)*,a,(a|b)", "aa ab baab", "a b ba bba"},
             {"((a,b)|c)+,d", "abd cd abcd ccabd", "d abc acd"}, {"#a,(b|c)*", "a abc acb", " b ba"},
             {"(a+|b+)?,(a|b),a", "aa ba aaa bba", "a b aab"}, {"((a?)+)?", " a aa", "b"}, {"a+,a", "aa aaa", " a"},
+            {"a?|b", " a b", "ab"}, {"b|a*", " aa b", "ab"}, {"(a,b?)*,(c|d)?", " aab abac d", "b cd abdc"},
         };
         for (String[] c : cases) {
             checkRows(c[0], c[1], true);
@@ -400,6 +407,12 @@ public final class PromisesTest {
         due("13: </b> closes the one that is open", p.elementNow(2), "b 1 3 36 1 1");
         due("13: the inner ones end there", p.elementNow(8), "h 7 21 32 0 0");
         due("14: faults 2", p.faultsNow(), "4@0 5@0 5@3 4@6 5@6 4@9 5@9 4@12 5@12 4@15 5@15 4@18 5@18 4@21 5@21 2@24 2@28 3@36");
+        Probe open = new Probe().text(EIGHT_OPEN);
+        due("13: the outermost of eight that aren't closed", open.elementNow(1), "a 0 0 24 1 0");
+        due("13: the innermost of eight that aren't closed", open.elementNow(8), "h 7 21 24 0 0");
+        Probe closed = new Probe().text(EIGHT_OPEN + "</a> ");
+        due("13: the outermost of eight is closed by its tag", closed.elementNow(1), "a 0 0 28 1 1");
+        due("13: the innermost of eight is closed before it", closed.elementNow(8), "h 7 21 24 0 0");
         Probe seven = new Probe().text("<a>".repeat(7) + "<b/><c></c>");
         due("13: an eighth", seven.elementNow(8), "b 7 21 25 0 0");
         due("13: another eighth", seven.elementNow(9), "c 7 25 32 0 1");
@@ -476,6 +489,8 @@ public final class PromisesTest {
         due("6: but not before it", later.offered(0) + later.offered(8), "");
         Probe dead = new Probe().models(".=a,(b|c,d),e?", "a=", "b=", "c=", "e=").text("<a/>");
         due("6: what follows must be fertile", dead.offered(4), "b");
+        Probe barren = new Probe().models(".=(a|b|c)*", "a=", "c=c").text("<a/>");
+        due("6: the name must be fertile", barren.offered(4), "a");
         Probe unknown = new Probe().models(".=a?,f?", "a=").text("<f/>");
         due("6: children need not be fertile", unknown.offered(0), "a");
         due("6: no model", new Probe().models("a=").text("x").offered(0), "");
@@ -514,6 +529,8 @@ public final class PromisesTest {
         due("6: a bracket is no tag", bracket.offered(1) + bracket.offered(3), "aa");
         Probe deep = new Probe().models("h=#a*", "a=").text(EIGHT_OPEN + "<a>");
         due("6: in and behind a tag that is too deep", deep.offered(24) + deep.offered(25) + deep.offered(27), "a-a");
+        Probe full = new Probe().models("a=a*").text("<a>".repeat(33));
+        due("6: in and behind the last of 33 tags", full.offered(96) + full.offered(97) + full.offered(98) + full.offered(99), "a--a");
     }
 
     private static void renaming() {
