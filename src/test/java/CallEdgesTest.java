@@ -188,6 +188,10 @@ public final class CallEdgesTest {
             p.models(name + "=" + name);
             due("3: another one of " + name, p.faultsNow() + p.guide.fertile(), "7@0 6@30");
         }
+        Probe used = new Probe().models("a=#(b|c)*", "a=", "a=b,c", "b=", "c=").text("<a><b/><c/></a>");
+        due("3: a row that the last model allows", used.faultsNow(), "");
+        used.erase(0, 3).text("<a><b/>");
+        due("3: one that an earlier model allowed", used.faultsNow(), "7@0");
         Probe document = new Probe().models(".=a", ".=#b", ".=#").text("x");
         due("3: the last model of the document", document.faultsNow(), "");
         due("3: another one of the document", document.models(".=").faultsNow(), "6@0");
@@ -775,7 +779,10 @@ public final class CallEdgesTest {
         due("13: of spaces", new Probe().text("  ").elementNow(0), ". -1 0 2 0 0");
         due("13: of a tag", new Probe().text("<a></a>").elementNow(0), ". -1 0 7 1 0");
         due("13: of what isn't closed", new Probe().text(" <a>").elementNow(0), ". -1 0 4 1 0");
-        due("13: of 100 characters", new Probe().text("<a/>".repeat(25)).elementNow(0), ". -1 0 100 25 0");
+        Probe full = new Probe().text("<a/>".repeat(25));
+        due("13: of 100 characters", full.elementNow(0), ". -1 0 100 25 0");
+        due("13: of one character less", full.erase(99, 1).elementNow(0), ". -1 0 99 24 0");
+        due("13: of none any more", full.erase(0, 99).elementNow(0), ". -1 0 0 0 0");
     }
 
     // "behind its last tag, or where it is closed without one", "an end tag of its own, 1 or 0"

@@ -120,6 +120,8 @@ public final class TermsEdgesTest {
         rows("(a|b*)+", " a b bbab", "c");
         rows("(a?,b?)+", " a b ab ba bbaa", "c");
         rows("a?,a?,a", "a aa aaa", " aaaa b");
+        rows("a?|b", " a b", "ab aa");
+        rows("b|a?", " a b", "ba aa");
     }
 
     // "without one the empty row alone"
@@ -287,6 +289,7 @@ public final class TermsEdgesTest {
         due("13: in a full text", new Probe().text("x".repeat(97) + "<a>").elementNow(1), "a 0 97 100 0 0");
         Probe eight = new Probe().models(ALL_MIXED).text(EIGHT_OPEN);
         due("14: eight", eight.faultsNow(), "4@0 4@3 4@6 4@9 4@12 4@15 4@18 4@21");
+        due("13: eight", eight.elementNow(1) + ", " + eight.elementNow(8), "a 0 0 24 1 0, h 7 21 24 0 0");
         due("13: in an empty text there is none", new Probe().elementNow(0), ". -1 0 0 0 0");
     }
 
@@ -417,6 +420,10 @@ public final class TermsEdgesTest {
         due("6: in a start tag that is too deep", around, "128 -1 -1 128");
         around = deep.offer(28) + " " + deep.offer(30) + " " + deep.offer(31);
         due("6: in an empty tag that is too deep", around, "-1 -1 128");
+        Probe gone = new Probe().models(".=#a*", "a=").text("xyz<a/>");
+        due("6: in a tag", gone.offered(4) + gone.rename(4, 'a'), "-1");
+        gone.erase(3, 4).text("xyz");
+        due("6: where the tag was that is gone", gone.offered(4) + gone.rename(4, 'a'), "a-1");
     }
 
     // "with the element whose inside has the place (of several the one begun last; the place before and the one behind
