@@ -420,6 +420,9 @@ public final class TermsEdgesTest {
         due("6: in a start tag that is too deep", around, "128 -1 -1 128");
         around = deep.offer(28) + " " + deep.offer(30) + " " + deep.offer(31);
         due("6: in an empty tag that is too deep", around, "-1 -1 128");
+        Probe most = new Probe().models("a=a*").text("<a>".repeat(33) + "x");
+        around = most.offer(96) + " " + most.offer(97) + " " + most.offer(98) + " " + most.offer(99) + " " + most.offer(100);
+        due("6: in the last of as many tags as a text can have", around, "1 -1 -1 1 1");
         Probe gone = new Probe().models(".=#a*", "a=").text("xyz<a/>");
         due("6: in a tag", gone.offered(4) + gone.rename(4, 'a'), "-1");
         gone.erase(3, 4).text("xyz");
@@ -532,6 +535,11 @@ public final class TermsEdgesTest {
             due("6: renaming in " + c[0], p.rename(0, 'h') + p.textNow(), c[1]);
             due("13: the element's name then", p.guide.element(1, 0), (int) 'h');
         }
+        Probe less = new Probe().text("<a></a>");
+        due("6: with an end tag", less.rename(0, 'b'), 2);
+        due("6: when that is gone", less.erase(3, 4).rename(0, 'c') + less.textNow(), "1<c>");
+        Probe most = new Probe().text("<a>".repeat(32) + "</a>");
+        due("6: with as many tags as a text can have", most.rename(99, 'b') + " " + most.rename(0, 'b'), "2 1");
     }
 
     // "or if the new name isn't one, -1"
