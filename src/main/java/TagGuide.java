@@ -245,8 +245,9 @@ public final class TagGuide {
     }
 
     /**
-     * What may stand in an element, as an automaton: its states are the names in the model, counted
-     * from the left (that one was read last), and one for the start; a set of states is held as bits.
+     * What may stand in an element, as an automaton: it has a state for each name in the model, counted
+     * from the left, in which it is when that name was read last, and one more for the start. A set of
+     * states is held as bits.
      */
     private static final class Model {
         private static final int START = MODEL_NAMES;
@@ -377,17 +378,16 @@ public final class TagGuide {
             if (depth > MODEL_PARENTHESES || !readsSequence(depth)) {
                 return false;
             }
-            for (int turn = 0; turn < DRAFT_ROOM && sees('|'); turn++) {
+            for (int turn = 0; turn < DRAFT_ROOM && takes('|'); turn++) {
                 int firstBefore = first;
                 int lastBefore = last;
                 boolean skippableBefore = skippable;
-                place++;
                 if (!readsSequence(depth)) {
                     return false;
                 }
                 first |= firstBefore;
                 last |= lastBefore;
-                skippable |= skippableBefore;
+                skippable = skippable || skippableBefore;
             }
             return true;
         }
@@ -396,18 +396,17 @@ public final class TagGuide {
             if (!readsItem(depth)) {
                 return false;
             }
-            for (int turn = 0; turn < DRAFT_ROOM && sees(','); turn++) {
+            for (int turn = 0; turn < DRAFT_ROOM && takes(','); turn++) {
                 int firstBefore = first;
                 int lastBefore = last;
                 boolean skippableBefore = skippable;
-                place++;
                 if (!readsItem(depth)) {
                     return false;
                 }
                 model.join(lastBefore, first);
                 first = skippableBefore ? firstBefore | first : firstBefore;
                 last = skippable ? lastBefore | last : last;
-                skippable &= skippableBefore;
+                skippable = skippable && skippableBefore;
             }
             return true;
         }
@@ -447,12 +446,8 @@ public final class TagGuide {
             }
         }
 
-        private boolean sees(char c) {
-            return draft.at(place) == c;
-        }
-
         private boolean takes(char c) {
-            if (!sees(c)) {
+            if (draft.at(place) != c) {
                 return false;
             }
             place++;

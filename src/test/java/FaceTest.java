@@ -3,7 +3,9 @@ import java.lang.reflect.Field;
 import java.lang.reflect.Method;
 import java.lang.reflect.Modifier;
 import java.util.Map;
+import java.util.Set;
 import java.util.TreeMap;
+import java.util.TreeSet;
 
 /** The public face is that of the document, and nothing else can be seen from outside. */
 public final class FaceTest {
@@ -18,6 +20,7 @@ public final class FaceTest {
         constructors();
         constants();
         methods();
+        namesOfTheFace();
         for (Class<?> inside : TagGuide.class.getDeclaredClasses()) {
             due("static " + inside, Modifier.isStatic(inside.getModifiers()), true);
             due("hidden " + inside, Modifier.isPublic(inside.getModifiers()) || Modifier.isProtected(inside.getModifiers()), false);
@@ -47,6 +50,22 @@ public final class FaceTest {
             }
         }
         due("constants", found.toString(), "{FULL=-2, NONE=-1, WAITS=-3}");
+    }
+
+    /** By the language's first rule no other method bears a name of the face. */
+    private static void namesOfTheFace() {
+        Set<String> face = new TreeSet<>();
+        for (String method : METHODS) {
+            face.add(method.substring(method.indexOf(' ') + 1, method.indexOf('(')));
+        }
+        for (Method method : TagGuide.class.getDeclaredMethods()) {
+            due("own name " + method, Modifier.isPrivate(method.getModifiers()) && face.contains(method.getName()), false);
+        }
+        for (Class<?> inside : TagGuide.class.getDeclaredClasses()) {
+            for (Method method : inside.getDeclaredMethods()) {
+                due("own name " + method, face.contains(method.getName()), false);
+            }
+        }
     }
 
     private static void methods() {
